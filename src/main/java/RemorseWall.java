@@ -563,16 +563,13 @@ public final class RemorseWall {
         private boolean readItem(Letters text, Plan plan) {
             char letter = text.at(place);
             place++;
-            switch (letter) {
-                case 'r':
-                    return readRow(text, plan);
-                case 'c':
-                    return readNumbers(text) && plan.addCase(numbers);
-                case 'm':
-                    return readNumbers(text) && plan.addMaid(numbers);
-                default:
-                    return false;
+            if (letter == 'r') {
+                return readRow(text, plan);
             }
+            if (letter == 'c') {
+                return readNumbers(text) && plan.addCase(numbers);
+            }
+            return letter == 'm' && readNumbers(text) && plan.addMaid(numbers);
         }
 
         private boolean readRow(Letters text, Plan plan) {
@@ -962,7 +959,6 @@ public final class RemorseWall {
     /** The latest of what is put on it; of a full pile the oldest goes. */
     private static final class Pile {
         private final Standing[] held;
-        private int oldest = 0;
         private int size = 0;
 
         Pile(int most) {
@@ -986,22 +982,35 @@ public final class RemorseWall {
 
         void push(Standing s) {
             if (isFull()) {
-                oldest = (oldest + 1) % held.length;
-            } else {
+                dropOldest();
+            }
+            Standing top = at(size);
+            if (top != null) {
+                top.copyFrom(s);
                 size++;
             }
-            latest().copyFrom(s);
         }
 
         void popInto(Standing s) {
-            if (size > 0) {
-                s.copyFrom(latest());
+            Standing top = at(size - 1);
+            if (top != null) {
+                s.copyFrom(top);
                 size--;
             }
         }
 
-        private Standing latest() {
-            return held[Math.floorMod(oldest + size - 1, held.length)];
+        private Standing at(int i) {
+            return i >= 0 && i < held.length ? held[i] : null;
+        }
+
+        /** The oldest one's room goes to the end, so that it is used again. */
+        private void dropOldest() {
+            Standing oldest = held[0];
+            for (int i = 1; i < held.length; i++) {
+                held[i - 1] = held[i];
+            }
+            held[held.length - 1] = oldest;
+            size = held.length - 1;
         }
     }
 

@@ -111,6 +111,10 @@ public final class ComesTest {
         smooths(x, 1, 1, 1, 1, 1, 1, 1);
         due("15: hasty at a hollow cell", x.smooth(2, 1, -1), NONE);
         smooths(Due.laid("r11;r20;m1,4,3,1;"), 0, 2, 0, 2);
+        // Half of 9 from the one ahead: more than there is, just as much, less.
+        smooths(Due.laid("r03;m1,9,1,0;"), 0, 1, 0);
+        smooths(Due.laid("r04;m1,9,1,0;"), 0, 1, 0);
+        smooths(Due.laid("r05;m1,9,2,0;"), 0, 1, 1);
         // Two rows of two strokes lead to cell 3; the one by the lower cell is the first.
         smooths(Due.laid("r00;r01;m0,1,9,0;"), 0, 3, 1, 3);
     }
@@ -150,6 +154,7 @@ public final class ComesTest {
         rounds(Due.laid("r000;r000;m0,9,9,4;"), 0, 0, 1, 0, 0, 0, 0);
         // At cell 0 she takes 4 and 2, at cell 1 no more than 4.
         rounds(Due.laid("r44;m1,4,9,1;"), 0, 2, 0);
+        rounds(Due.laid("r45;m1,4,9,0;"), 0, 0, 0, 1);
         // Gentle: 1 and half of 7.
         rounds(Due.laid("r19;m2,7,9,1;"), 0, 2, 1, 1);
     }

@@ -136,6 +136,9 @@ public final class MindTest {
             due("22: deep(0, " + far + ", 0)", x.deep(0, far, 0), BAD);
             due("22: deep(0, 1, " + far + ")", x.deep(0, 1, far), BAD);
         }
+        due("22: in twenty years", x.deep(3, 20, 0), 0);
+        x.forget();
+        due("22: in twenty years, all", x.deep(3, 20, 0), 9);
         RemorseWall y = Due.laid("r00;c1,0,9,0;");
         y.see(1, 2);
         deeps(y, 0, 1, 2, 4);

@@ -121,6 +121,7 @@ public final class SlipsTest {
         evenings(x, 52, 2, 4, 0);
         evenings(x, 105, 2, 7, 0);
         due("24: nothing is pardoned", x.count(7), 2);
+        evenings(Due.laid("r0;c0,0,4,0;"), 52, 2, 0, 0);
         x.pardon(0);
         evenings(x, 52, 2, 0, 0);
         evenings(x, 105, 2, 7, 0);
