@@ -74,25 +74,41 @@ final class Alike {
     }
 
     private void undone() {
-        for (int i = 1; i <= 9; i++) {
-            same("undone " + i, "undo()", x.undo(), y.undo());
-            standing("undone " + i);
+        boolean more = true;
+        for (int i = 1; i <= 9 && more; i++) {
+            more = answersOf("undone " + i, "undo()", x.undo(), y.undo());
         }
     }
 
     private void kept() {
-        for (int i = 1; i <= 3; i++) {
-            same("come back " + i, "back()", x.back(), y.back());
-            standing("come back " + i);
+        boolean more = true;
+        for (int i = 1; i <= 3 && more; i++) {
+            more = answersOf("come back " + i, "back()", x.back(), y.back());
         }
     }
 
+    /** Compares two answers and what stands then; whether either has more to give. */
+    private boolean answersOf(String when, String call, int one, int other) {
+        same(when, call, one, other);
+        standing(when);
+        return one != RemorseWall.NO || other != RemorseWall.NO;
+    }
+
+    /** As it is, and with an end by which a lone r at its end becomes a row of three. */
     private void text() {
-        same("at the end", "fault()", x.fault(), y.fault());
-        same("at the end", "lay()", x.lay(), y.lay());
-        counts("laid anew");
-        standing("laid anew");
-        told("laid anew");
+        laid("as it is");
+        for (char letter : "000;".toCharArray()) {
+            same("at the end", "write(" + letter + ")", x.write(letter), y.write(letter));
+        }
+        laid("with a row's end");
         same("at the end", "wipe()", x.wipe(), y.wipe());
+    }
+
+    private void laid(String when) {
+        same(when, "fault()", x.fault(), y.fault());
+        same(when, "lay()", x.lay(), y.lay());
+        counts("laid " + when);
+        standing("laid " + when);
+        told("laid " + when);
     }
 }

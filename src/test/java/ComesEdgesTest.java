@@ -17,6 +17,7 @@ public final class ComesEdgesTest {
     static void all(Edges e) {
         ComesEdgesTest t = new ComesEdgesTest(e);
         t.nothingElse();
+        t.askedAgain();
         t.behindYears();
         t.hollowedYears();
         t.asManyAsLeft();
@@ -49,7 +50,9 @@ public final class ComesEdgesTest {
         for (int k = 0; k < row.length; k++) {
             e.due("smooth(" + m + ", " + cell + ", " + k + ")", x.smooth(m, cell, k), row[k]);
         }
-        e.due("smooth(" + m + ", " + cell + ", " + row.length + ")", x.smooth(m, cell, row.length), NONE);
+        for (int k = row.length; k <= 10; k++) {
+            e.due("smooth(" + m + ", " + cell + ", " + k + ")", x.smooth(m, cell, k), NONE);
+        }
     }
 
     private void cannotSmooth(RemorseWall x, int m, int cell) {
@@ -78,6 +81,24 @@ public final class ComesEdgesTest {
         e.leaves("round(1, 2, 1)", Scenes::lived, x -> x.round(1, 2, 1), 5);
         e.leaves("chairs(5)", Scenes::lived, x -> x.chairs(5), 2);
         e.leaves("pardons(1, 1)", Scenes::lived, x -> x.pardons(1, 1), 50);
+    }
+
+    /** One object that is asked everything, there and back again, against new ones that are asked once. */
+    private void askedAgain() {
+        e.sentence("Terms 3", "Nothing else being done: ");
+        Edges.Call[] asked = {x -> x.behind(7, 1), x -> x.hollowed(5), x -> x.smooth(0, 1, 3), x -> x.smooth(0, 3, 0),
+            x -> x.smooth(0, 4, -1), x -> x.smooth(1, 4, 0), x -> x.smooth(1, 5, 1), x -> x.smooth(0, 2, -1),
+            x -> x.round(0, 4, 3), x -> x.round(0, 1, 0), x -> x.round(1, 2, -1), x -> x.round(0, 3, -1),
+            x -> x.chairs(40), x -> x.chairs(11), x -> x.chairs(5), x -> x.chairs(0), x -> x.chairs(12),
+            x -> x.pardons(20, 0), x -> x.pardons(1, 1), x -> x.mind(2, 0), x -> x.mind(1, 1), x -> x.deep(0, 1, 1),
+            x -> x.deep(2, 20, 0), x -> x.slip(0, 1, 4, 5, 1), x -> x.slip(1, 5, 2, 3, 0), x -> x.evening(4, 9, 0),
+            x -> x.evening(531, 60, 1), x -> x.matter(2, 5), x -> x.maid(0, 4), x -> x.fault(), x -> x.count(5)};
+        RemorseWall one = Scenes.lived();
+        for (int turn = 0; turn < 2 * asked.length; turn++) {
+            int i = turn < asked.length ? turn : 2 * asked.length - 1 - turn;
+            e.due("question " + i + " asked as number " + turn, asked[i].on(one), asked[i].on(Scenes.lived()));
+        }
+        e.same("behind all of them", one, Scenes.lived());
     }
 
     private void behindYears() {
@@ -167,6 +188,16 @@ public final class ComesEdgesTest {
             }
         }
         smooths(Scenes.stands(40, ";", "m0,5,8,0;"), 0, 0, 0, 0, 0, 0, 0, 0, 0, 0);
+        for (int h = 0; h <= 40; h++) {
+            RemorseWall x = Scenes.stands(h, "00;", "m0,5,9,0;m0,4,9,1;");
+            smooths(x, 0, 0, new int[(h + 4) / 5]);
+            smooths(x, 0, 1);
+            if (h <= 36) {
+                smooths(x, 1, 0, new int[(h + 3) / 4]);
+            } else {
+                cannotSmooth(x, 1, 0);
+            }
+        }
         cannotSmooth(Scenes.stands(40, ";", "m0,5,7,0;"), 0, 0);
         cannotSmooth(Scenes.stands(40, ";", "m0,4,9,0;"), 0, 0);
         smooths(Scenes.stands(36, ";", "m0,4,9,0;"), 0, 0, 0, 0, 0, 0, 0, 0, 0, 0, 0);
@@ -178,8 +209,10 @@ public final class ComesEdgesTest {
         smooths(Due.laid("r000000;r000000;r000000;r000004;m1,9,7,0;"), 0, 23, 1, 2, 3, 4, 10, 16, 22);
         cannotSmooth(Due.laid("r000000;r000000;r000000;r000005;m1,9,7,0;"), 0, 23);
         smooths(Due.laid("r00;r40;m1,9,2,1;"), 0, 2, 0, 2);
-        smooths(Due.laid("r04;m1,9,1,0;"), 0, 1, 0);
-        smooths(Due.laid("r05;m1,9,1,0;"), 0, 1, 1);
+        for (int h = 1; h <= 9; h++) {
+            smooths(Due.laid("r0" + h + ";m1,9,1,0;"), 0, 1, h <= 4 ? 0 : 1);
+            smooths(Due.laid("r000;r00" + h + ";m1,9,1,4;"), 0, 5, h <= 4 ? 4 : 5);
+        }
         smooths(Due.laid("r08;m1,8,9,0;"), 0, 1, 1);
         smooths(Due.laid("r09;m1,8,9,0;"), 0, 1, 0, 1);
         smooths(Due.laid("r02;m1,1,9,0;"), 0, 1, 1, 1);
@@ -289,6 +322,14 @@ public final class ComesEdgesTest {
             }
         }
         e.due("none at all", Due.laid("r999;r999;").chairs(8), 0);
+        RemorseWall x = Due.laid("r123;r456;r789;");
+        int[] most = {0, 1, 1, 2, 2, 3, 3, 4, 4, 5};
+        for (int h = 9; h >= 0; h--) {
+            e.due("chairs(" + h + ") of nine, from above", x.chairs(h), most[h]);
+        }
+        for (int h = 0; h <= 9; h++) {
+            e.due("chairs(" + h + ") of nine, from below", x.chairs(h), most[h]);
+        }
     }
 
     private void chairsApart() {

@@ -8,12 +8,12 @@ import java.util.Map;
 
 /**
  * Tests of the edges: each is named by the part of the document (Terms 1 to 4, Promise 1 to 27) and
- * by the very words of the sentence there, and fails, too, if the words do not stand there.
+ * by the very words of the sentence there, and fails, too, if the document has other words there.
  */
 final class Edges {
     static final int BAD = RemorseWall.BAD, NO = RemorseWall.NO, FULL = RemorseWall.FULL, NONE = RemorseWall.NONE;
 
-    /** Numbers that no argument can be, wherever its bounds are. */
+    /** Numbers that are far beyond all bounds that are told. */
     static final int[] FAR = {Integer.MIN_VALUE, Integer.MIN_VALUE + 1, -100, 100000, Integer.MAX_VALUE - 1,
         Integer.MAX_VALUE};
 
@@ -40,8 +40,10 @@ final class Edges {
     /** From here on the answers belong to this sentence. */
     void sentence(String part, String words) {
         now = part + " '" + words + "': ";
-        String text = parts.get(part);
-        due.holds(now + "these words stand there", text != null && text.contains(words));
+        if (hasDocument()) {
+            String text = parts.get(part);
+            due.holds(now + "these words stand there", text != null && text.contains(words));
+        }
         quoted.computeIfAbsent(part, k -> new ArrayList<>()).add(words);
     }
 
@@ -66,10 +68,13 @@ final class Edges {
     }
 
     void end() {
-        int sentences = quoted.values().stream().mapToInt(List::size).sum();
-        due.holds("there are sentences", sentences > 0);
-        System.out.println(sentences + " sentences");
+        due.holds("there are sentences", sentences() > 0);
+        System.out.println(sentences() + " sentences");
         due.end();
+    }
+
+    int sentences() {
+        return quoted.values().stream().mapToInt(List::size).sum();
     }
 
     /** The letters and figures of a part that no sentence quoted, the rest as blanks. */
@@ -90,13 +95,19 @@ final class Edges {
         return parts.keySet();
     }
 
+    /** Without the document all answers are held to what is due, only the words are not looked up. */
+    boolean hasDocument() {
+        return !parts.isEmpty();
+    }
+
     private static Map<String, String> readParts() {
         Map<String, String> parts = new LinkedHashMap<>();
         String doc;
         try {
             doc = Files.readString(DOC);
         } catch (IOException e) {
-            throw new IllegalStateException("the document is not at " + DOC, e);
+            System.out.println("no document at " + DOC + ": the sentences are not looked up");
+            return parts;
         }
         String terms = between(doc, "## Terms", "Ahead of the calls");
         for (int i = 1; i <= 4; i++) {

@@ -10,6 +10,7 @@ public final class SentencesTest {
         SlipEdgesTest.all(e);
         RefusedEdgesTest.all(e);
         Due due = new Due("SentencesTest");
+        due.holds("there are sentences", e.sentences() > 0);
         for (String part : e.partsOfDocument()) {
             String rest = e.notQuoted(part);
             due.holds(part + " has words that no test is named by: " + rest, rest.isEmpty());

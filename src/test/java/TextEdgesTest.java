@@ -537,6 +537,13 @@ public final class TextEdgesTest {
         Due.write(small, "r9;");
         e.due("a smaller wall", small.lay(), 1);
         e.same("nothing stays of the larger one", small, Due.laid("r9;"));
+        RemorseWall fewer = Due.laid(LONGEST);
+        fewer.wipe();
+        Due.write(fewer, "r900;c0,0,1,0;m0,1,1,0;");
+        fewer.lay();
+        e.due("twenty years of a wall with fewer cases", fewer.pass(20), 20);
+        e.due("by the one that it tells alone", fewer.count(5), 29);
+        e.due("strokes of the one maid alone", fewer.count(8), 1);
     }
 
     private void layRefused() {

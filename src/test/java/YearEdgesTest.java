@@ -50,10 +50,13 @@ public final class YearEdgesTest {
 
     /** What stands, cell by cell. */
     private void wall(String when, RemorseWall x, int... high) {
+        int sum = 0;
         e.due(when + ", how many cells", x.count(0), high.length);
         for (int i = 0; i < high.length; i++) {
             e.due(when + ", high(" + i + ")", x.high(i), high[i]);
+            sum += high[i];
         }
+        e.due(when + ", in sum", x.count(5), sum);
     }
 
     private static RemorseWall aYearOf(String text) {
@@ -152,6 +155,8 @@ public final class YearEdgesTest {
             wall("at a row's end", aYearOf(wall + 2 + items), 0, f, 0, 0, 0, f, 0, 0, 0);
             wall("at a row's start", aYearOf(wall + 3 + items), f, 0, 0, 0, f, 0, f, 0, 0);
             wall("at the upper edge", aYearOf(wall + 1 + items), f, 0, f, 0, f, 0, 0, 0, 0);
+            wall("at the last row's start", aYearOf(wall + 6 + items), 0, 0, 0, f, 0, 0, 0, f, 0);
+            wall("at the last row's middle", aYearOf(wall + 7 + items), 0, 0, 0, 0, f, 0, f, 0, f);
             wall("in the last corner", aYearOf(wall + 8 + items), 0, 0, 0, 0, 0, f, 0, f, 0);
             wall("in one cell", aYearOf("r0;c2,0" + items), 0);
             wall("in a row", aYearOf("r000;c2,1" + items), f, 0, f);
