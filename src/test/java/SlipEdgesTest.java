@@ -153,7 +153,8 @@ public final class SlipEdgesTest {
             for (int i = 0; i < hits; i++) {
                 ways = ways.multiply(BigInteger.valueOf(n - i)).divide(BigInteger.valueOf(i + 1));
             }
-            above = above.add(ways.multiply(BigInteger.valueOf(10 - t).pow(hits)).multiply(BigInteger.valueOf(t).pow(n - hits)));
+            BigInteger each = BigInteger.valueOf(10 - t).pow(hits).multiply(BigInteger.valueOf(t).pow(n - hits));
+            above = above.add(ways.multiply(each));
         }
         BigInteger below = BigInteger.TEN.pow(n);
         BigInteger shared = above.gcd(below);
@@ -183,7 +184,8 @@ public final class SlipEdgesTest {
     }
 
     private void evenings() {
-        e.sentence("Terms 4", "An EVENING by z (0 to 9999) of n (1 to 60) from now on (nothing changes by it): in the k-th (0 first), ");
+        e.sentence("Terms 4", "An EVENING by z (0 to 9999) of n (1 to 60) from now on (nothing changes by it): "
+                + "in the k-th (0 first), ");
         String text = "r0;" + Scenes.times("c0,0,1,0;", 6);
         for (int z : new int[] {0, 1, 2, 3, 4, 10, 531, 571, 4999, 5000, 6628, 9997, 9998, 9999}) {
             RemorseWall x = Due.laid(text);
@@ -251,8 +253,8 @@ public final class SlipEdgesTest {
     }
 
     private void strokeIfItCan() {
-        e.sentence("Terms 4", "else MAID (DRAW by 8, cut) modulo as many gives a STROKE at CELL (DRAW by 64, cut) modulo as many; "
-                + "each if there are such, and it can be; ");
+        e.sentence("Terms 4", "else MAID (DRAW by 8, cut) modulo as many gives a STROKE at CELL (DRAW by 64, cut) "
+                + "modulo as many; each if there are such, and it can be; ");
         // The first draws by these, modulo 8, are 0, 1, 2, 3, 4 and 5: each is a stroke.
         int[] byRest = {5, 0, 16, 1, 15, 2};
         for (int rest = 0; rest < 6; rest++) {

@@ -511,7 +511,8 @@ public final class YearEdgesTest {
             RemorseWall x = Scenes.inYear(999 - n, "r0;c0,0,1,0;m0,1,1,0;");
             e.due("pass(" + n + ") up to 999", x.pass(n), 999);
             e.due("which it is", x.count(4), 999);
-            e.leaves("pass(" + n + ") one beyond", () -> Scenes.inYear(1000 - years, Scenes.LIVED), w -> w.pass(years), NO);
+            Edges.Maker tooLate = () -> Scenes.inYear(1000 - years, Scenes.LIVED);
+            e.leaves("pass(" + n + ") one beyond", tooLate, w -> w.pass(years), NO);
             e.leaves("pass(" + n + ") in year 999", () -> Scenes.inYear(999, Scenes.LIVED), w -> w.pass(years), NO);
         }
         RemorseWall y = Scenes.inYear(999, "r0;c0,0,1,0;");
